@@ -695,8 +695,9 @@ public final class DarkDesk {
         /** All placed works have begun by then, so hands that are free once stay free. */
         private int earliest(int work, int row, int from) {
             int at = from;
-            for (int of = 0; of < works.size; of++) {
-                if ((needs[work] >> of & 1) != 0) {
+            int all = needs[work];
+            for (int of = 0; of < works.size && all >> of != 0; of++) {
+                if ((all >> of & 1) != 0) {
                     at = Math.max(at, early[row + of] + works.ticks[of]);
                 }
             }
