@@ -1,3 +1,6 @@
+import java.util.function.Consumer;
+import java.util.function.Supplier;
+
 /** Counts answers that are not the ones that are due, prints each, and ends the test by them. */
 final class Check {
     /** A call whose exception is looked at. */
@@ -37,6 +40,14 @@ final class Check {
             got = e.getClass().getName();
         }
         same(call + " throws", due.getName(), got);
+    }
+
+    /** The call throws what is due, and what the new desk tells stays as it was. */
+    void refuses(String call, Class<? extends RuntimeException> due, Supplier<DarkDesk> made, Consumer<DarkDesk> asked) {
+        DarkDesk desk = made.get();
+        String before = Snapshot.of(desk);
+        refuses(call, due, () -> asked.accept(desk));
+        same(call + " changes nothing", before, Snapshot.of(desk));
     }
 
     void end(String test) {
