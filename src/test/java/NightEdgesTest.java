@@ -14,6 +14,8 @@ public final class NightEdgesTest {
         beginThinWithoutSoftNeeds();
         beginThinCosts();
         beginThinThoughAllIsUp();
+        beginNotThinWithSoftNeedsDown();
+        beginSeveralThin();
         falseBeginsChangeNothing();
         ticksFromZeroToHundred();
         tickZeroChangesNothing();
@@ -220,6 +222,27 @@ public final class NightEdgesTest {
         CHECK.same("19 thin, though what it needs is up", true, desk.begin(1, true));
         CHECK.same("24 its cost", 9, desk.now(2));
         CHECK.same("22 it was begun thin, so it stays", 1, desk.blow(0));
+    }
+
+    private static void beginNotThinWithSoftNeedsDown() {
+        for (int work = 0; work < 8; work++) {
+            DarkDesk desk = night(8, 1, 1, 0, 1);
+            desk.need(work, (work + 1) % 8, true);
+            desk.night(8);
+            CHECK.same("19 not thin, work " + work, false, desk.begin(work, false));
+            CHECK.same("19 thin, work " + work, true, desk.begin(work, true));
+        }
+    }
+
+    private static void beginSeveralThin() {
+        DarkDesk desk = night(8, 2, 1, 0, 1);
+        for (int work = 0; work < 8; work++) {
+            desk.begin(work, work % 3 != 1);
+        }
+        for (int work = 0; work < 8; work++) {
+            look("of several thin ones", desk, work, 1, 2, work % 3 != 1 ? 1 : 0);
+        }
+        CHECK.same("24 a cost for each thin one", 5, desk.now(2));
     }
 
     // Promise 19: "false, and nothing happens"
@@ -474,7 +497,16 @@ public final class NightEdgesTest {
         desk.tick(1);
         CHECK.same("22 what needs another one stays", 1, desk.blow(0));
         look("beside it", desk, 2, 1, 1, 1);
+        look("struck", desk, 0, 0, 0, 0);
         CHECK.same("24 its hands are not free", 6, desk.now(1));
+        DarkDesk up = night(3, 1, 1, 1, 1);
+        up.begin(0, false);
+        up.begin(1, true);
+        up.begin(2, false);
+        up.tick(1);
+        CHECK.same("22 the last alone", 4, up.blow(2));
+        look("not thin, beside a blow", up, 0, 2, 0, 0);
+        look("thin, beside a blow", up, 1, 2, 0, 1);
     }
 
     private static void blowLeavesWhatWasThinAllAlong() {

@@ -21,6 +21,7 @@ public final class PlanEdgesTest {
         severalByWorkOne();
         severalByTheLast();
         severalWithNeeds();
+        severalWithALateBegin();
         leastAwayAheadOfEarlyBegins();
         noneByARing();
         noneByARingThatThinOnesLeave();
@@ -236,6 +237,18 @@ public final class PlanEdgesTest {
         desk.need(0, 3, false);
         due("weightless: what 0 needs is first, then 0, 1 and 2", desk, 1, 0, 0, 1, 2, 3, 0);
         due("weightless, two hands: 1 beside what 0 needs, 2 beside 0", desk, 2, 0, 0, 1, 0, 1, 0);
+    }
+
+    /** Work 1 is up first or last, at the same AWAY: work 0 a tick earlier is worth 73 ticks of work 1. */
+    private static void severalWithALateBegin() {
+        DarkDesk desk = new DarkDesk();
+        desk.work(1, 1, 0, -1);
+        desk.work(1, 1, 1, -1);
+        for (int i = 2; i < 8; i++) {
+            desk.work(12, 1, i == 7 ? 73 : 0, -1);
+            desk.need(i, i == 2 ? 0 : i - 1, false);
+        }
+        due("0 at 0 and 1 at 73, not 0 at 1 and 1 at 0", desk, 1, 0, 73 * 73 + 74, 0, 73, 1, 13, 25, 37, 49, 61);
     }
 
     // "The PLAN is that of the least AWAY", even if work 0 begins last by it.

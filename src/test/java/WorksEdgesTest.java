@@ -13,6 +13,7 @@ public final class WorksEdgesTest {
         fortyNeeds();
         needsToldTwice();
         softAndHardOfTheSamePair();
+        hardOnesOfAThinWork();
         softForThinOnesAlone();
         hangsOnNothing();
         hangsThroughSoftNeeds();
@@ -191,6 +192,24 @@ public final class WorksEdgesTest {
         CHECK.same("3 thin with soft needs alone", true, soft.begin(1, true));
     }
 
+    private static void hardOnesOfAThinWork() {
+        DarkDesk desk = Desks.works(4, 0);
+        desk.need(3, 0, false);
+        desk.need(3, 1, true);
+        desk.need(3, 2, false);
+        desk.night(8);
+        desk.begin(2, false);
+        desk.tick(1);
+        CHECK.same("3 thin with the last of two hard needs up", false, desk.begin(3, true));
+        desk.night(8);
+        desk.begin(0, false);
+        desk.tick(1);
+        CHECK.same("3 thin with the first of two hard needs up", false, desk.begin(3, true));
+        desk.begin(2, false);
+        desk.tick(1);
+        CHECK.same("3 thin with both hard needs up", true, desk.begin(3, true));
+    }
+
     private static void softForThinOnesAlone() {
         DarkDesk desk = Desks.works(3, 1);
         desk.need(0, 1, true);
@@ -212,10 +231,12 @@ public final class WorksEdgesTest {
     }
 
     private static void hangsThroughSoftNeeds() {
-        DarkDesk desk = Desks.works(3, 0);
+        DarkDesk desk = Desks.works(4, 0);
+        desk.need(3, 0, true);
         desk.need(0, 1, true);
         desk.need(1, 2, true);
-        CHECK.same("4 hangs(0)", 0b110, desk.hangs(0));
+        CHECK.same("4 hangs(0)", 0b0110, desk.hangs(0));
+        CHECK.same("4 hangs(3)", 0b0111, desk.hangs(3));
     }
 
     private static void hangsOnItselfOnlyInARing() {
@@ -283,10 +304,12 @@ public final class WorksEdgesTest {
     }
 
     private static void stepsThroughSoftNeeds() {
-        DarkDesk desk = Desks.works(3, 0);
+        DarkDesk desk = Desks.works(4, 0);
+        desk.need(3, 0, true);
         desk.need(0, 1, true);
         desk.need(1, 2, true);
         CHECK.same("5 steps(0, 2)", 2, desk.steps(0, 2));
+        CHECK.same("5 steps(3, 2)", 3, desk.steps(3, 2));
     }
 
     // "A RING: a work that needs itself so." Promise 6: "The works that are in a RING with a set THIN, as bits."
